@@ -410,6 +410,7 @@ public final class ThingsTest {
             due.is("remark(" + kind + ", 0, 1000)", w.remark(kind, 0, 1000), 5);
             due.is("mark(" + kind + ", 0) anew", w.mark(kind, 0), 1000);
             due.is("mark(" + kind + ", 1) anew", w.mark(kind, 1), own ? 8 : Due.CAST);
+            due.is("remark(" + kind + ", 1, 8) again", w.remark(kind, 1, 8), own ? 8 : Due.CAST);
         }
         due.is("remark(0, 0, 0)", w.remark(0, 0, 0), 1000);
         due.is("mark(6, 0)", w.mark(6, 0), UNKNOWN);
