@@ -1084,10 +1084,9 @@ public final class WorldMake {
             switch (bases[thing]) {
                 case ROOM: return loadOf(thing);
                 case DOOR: return 2 * sizes[thing];
-                case BACKDROP: return 0;
                 case CARRIER:
                 case PERSON: return bareBulkOf(thing) + loadOf(thing);
-                default: return sizes[thing];
+                default: return bareBulkOf(thing);
             }
         }
 
@@ -1104,7 +1103,7 @@ public final class WorldMake {
         int loadOf(int holder) {
             int load = 0;
             for (int k = 0; k < size; k++) {
-                if (!isOf(k, BACKDROP) && liesWithin(k, holder)) {
+                if (liesWithin(k, holder)) {
                     load += bareBulkOf(k);
                 }
             }

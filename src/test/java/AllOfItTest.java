@@ -252,6 +252,12 @@ public final class AllOfItTest {
         due.is("sentence(0, 0)", w.sentence(0, 0), UNKNOWN);
         due.is("is(6, 0)", w.is(6, 0), UNKNOWN);
         due.is("clear() again", w.clear(), 0);
+        WorldMake x = Due.world(DOOR, DOOR);
+        x.open(0, true);
+        x.open(1, true);
+        x.clear();
+        due.is("thing(2, 1)", x.thing(DOOR, 1), 0);
+        due.is("open(0, false): it is shut", x.open(0, false), 0);
         nothingIsLeft(w);
     }
 

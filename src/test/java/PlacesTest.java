@@ -39,6 +39,8 @@ public final class PlacesTest {
         due.is("among(4, {0, 1}): a door", w.among(4, 3), STATE);
         due.is("among(4, {0, 2}): a backdrop", w.among(4, 5), STATE);
         due.is("among(3, {0, 4}): a thing", w.among(3, 17), STATE);
+        WorldMake x = Due.world(THING, ROOM, THING);
+        due.is("among(2, {0, 1}): a thing", x.among(2, 3), STATE);
         due.is("set(4)", w.set(4), 0);
         due.is("among(4, {0, 3, 5})", w.among(4, 41), 0);
         due.is("set(4)", w.set(4), 41);
@@ -84,6 +86,10 @@ public final class PlacesTest {
         due.is("among(5, {1, 2})", w.among(5, 6), 7);
         due.is("among(5, {0, 2}): the latest", w.among(5, 5), Due.against(7));
         due.is("set(5)", w.set(5), 2);
+        WorldMake x = Due.world(ROOM, ROOM, THING);
+        due.is("bar(2, 0)", x.bar(2, 0), 0);
+        due.is("bar(2, 1)", x.bar(2, 1), 1);
+        due.is("among(2, {0, 1}): the very first", x.among(2, 3), Due.against(0));
     }
 
     private static void theLastBit() {
@@ -134,15 +140,20 @@ public final class PlacesTest {
         due.is("put(4, 0)", w.put(4, 0), 3);
         due.is("pair(4, 5, true): the later put", w.pair(4, 5, true), Due.against(3));
         due.is("pair(5, 4, true): the later put", w.pair(5, 4, true), Due.against(3));
-        due.is("pair(4, 5, false)", w.pair(4, 5, false), 4);
-        due.is("pair(4, 5, true): the pair ahead of the put", w.pair(4, 5, true), Due.against(4));
-        due.is("put(2, 0)", w.put(2, 0), 5);
-        due.is("pair(2, 4, false): the same one", w.pair(2, 4, false), Due.against(5));
-        due.is("pair(2, 4, true)", w.pair(2, 4, true), 6);
+        due.is("pair(4, 2, true): one was put", w.pair(4, 2, true), 4);
+        due.is("pair(3, 5, true): one was put", w.pair(3, 5, true), 5);
+        due.is("pair(4, 5, false)", w.pair(4, 5, false), 6);
+        due.is("pair(4, 5, true): the pair ahead of the put", w.pair(4, 5, true), Due.against(6));
+        due.is("put(2, 0)", w.put(2, 0), 7);
         due.is("put(3, 1): the first pair", w.put(3, 1), Due.against(0));
-        due.is("put(3, 0)", w.put(3, 0), 7);
-        due.is("count(9)", w.count(9), 4);
+        due.is("put(3, 0): another pair", w.put(3, 0), Due.against(5));
+        due.is("count(9)", w.count(9), 5);
         due.is("sentence(4, 0)", w.sentence(4, 0), 4);
+        WorldMake x = Due.world(ROOM, THING, THING);
+        due.is("put(2, 0)", x.put(2, 0), 0);
+        due.is("put(1, 0)", x.put(1, 0), 1);
+        due.is("pair(1, 2, false): the same one", x.pair(1, 2, false), Due.against(1));
+        due.is("pair(1, 2, true)", x.pair(1, 2, true), 2);
     }
 
     private static void mostRefuses() {
@@ -329,6 +340,7 @@ public final class PlacesTest {
         due.is("pair(2, other)", w.pair(2, other, true), FULL);
         due.is("pair(2, 3, false): full ahead of against", w.pair(2, 3, false), FULL);
         due.is("most(1, 1)", w.most(1, 1), FULL);
+        due.is("most(1, 1): it has none yet", w.most(1, 1), FULL);
         due.is("most(0, 1): state ahead of full", w.most(0, 1), STATE);
         due.is("most(third, 1)", w.most(third, 1), FULL);
         WorldMake x = unsettled(2, 2, 3);

@@ -11,6 +11,7 @@ public final class RelationsTest {
             toItself(form);
             denials(form);
         }
+        theRelateThatIsDenied();
         oneToOne();
         oneToMany();
         manyToOne();
@@ -92,6 +93,24 @@ public final class RelationsTest {
         due.is("relate(0, 3, 2) of form " + form, w.relate(0, 3, 2), bothWays ? STATE : Due.against(3));
     }
 
+    private static void theRelateThatIsDenied() {
+        WorldMake w = world(5, ANY);
+        w.relation(EACH_OTHER);
+        due.is("relate(0, 0, 1)", w.relate(0, 0, 1), 0);
+        due.is("relate(0, 0, 2)", w.relate(0, 0, 2), 1);
+        due.is("relate(0, 3, 2)", w.relate(0, 3, 2), 2);
+        due.is("deny(0, 0, 1): the very first", w.deny(0, 0, 1), Due.against(0));
+        due.is("deny(0, 0, 2)", w.deny(0, 0, 2), Due.against(1));
+        due.is("deny(0, 3, 2)", w.deny(0, 3, 2), Due.against(2));
+        due.is("relate(1, 4, 0)", w.relate(1, 4, 0), 3);
+        due.is("relate(1, 3, 2)", w.relate(1, 3, 2), 4);
+        due.is("relate(1, 0, 1)", w.relate(1, 0, 1), 5);
+        due.is("relate(1, 0, 2)", w.relate(1, 0, 2), 6);
+        due.is("deny(1, 2, 0)", w.deny(1, 2, 0), Due.against(6));
+        due.is("deny(1, 0, 1): of this relation", w.deny(1, 0, 1), Due.against(5));
+        due.is("deny(1, 2, 3)", w.deny(1, 2, 3), Due.against(4));
+    }
+
     private static void oneToOne() {
         WorldMake w = world(5, ONE_TO_ONE);
         due.is("relate(0, 0, 1)", w.relate(0, 0, 1), 0);
@@ -111,6 +130,7 @@ public final class RelationsTest {
         due.is("relate(0, 0, 1)", w.relate(0, 0, 1), 0);
         due.is("relate(0, 0, 2): many", w.relate(0, 0, 2), 1);
         due.is("relate(0, 3, 2): one", w.relate(0, 3, 2), Due.against(1));
+        due.is("relate(0, 3, 1): one", w.relate(0, 3, 1), Due.against(0));
         due.is("relate(0, 2, 0)", w.relate(0, 2, 0), 2);
         due.is("related(0, 0, 2)", w.related(0, 0, 2), 1);
     }
@@ -147,6 +167,11 @@ public final class RelationsTest {
         due.is("deny(0, 1, 3): the other way round", w.deny(0, 1, 3), 3);
         due.is("relate(0, 1, 3): the first", w.relate(0, 1, 3), Due.against(2));
         due.is("along(0, 1, 3)", w.along(0, 1, 3), 2);
+        due.is("relate(0, 0, 2)", w.relate(0, 0, 2), 4);
+        for (int other : new int[] {0, 1, 3}) {
+            due.is("related(0, 2, " + other + ")", w.related(0, 2, other), 1);
+            due.is("related(0, " + other + ", 2)", w.related(0, other, 2), 1);
+        }
     }
 
     private static void groups() {

@@ -361,13 +361,18 @@ public final class ThingsTest {
         due.is("fault()", w.fault(), 6);
         w.put(0, 5);
         due.is("stride", w.says(5, 4), 166);
-        int heavy = w.thing(THING, 995);
-        w.put(heavy, 5);
+        w.put(w.thing(THING, 2), 5);
+        due.is("stride, load 8", w.says(5, 4), 125);
+        w.put(w.thing(THING, 992), 5);
+        due.is("stride, load 1000", w.says(5, 4), 1);
+        w.put(w.thing(THING, 1), 5);
         due.is("stride cut to 0", w.says(5, 4), 0);
         int feather = w.thing(THING, 0);
         int other = w.thing(PERSON, 0);
         w.put(feather, other);
         due.is("stride, load of size 0", w.says(other, 4), Due.QUOTIENT);
+        w.put(w.thing(THING, 1), other);
+        due.is("stride, load 1", w.says(other, 4), 1000);
     }
 
     private static void follows() {
