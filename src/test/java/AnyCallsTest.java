@@ -20,13 +20,13 @@ public final class AnyCallsTest {
     }
 
     private static void run(int number) {
-        AnyCall.Maker maker = new AnyCall.Maker(number);
+        CallMaker maker = new CallMaker(number);
         WorldMake all = new WorldMake();
         WorldMake cleared = usedAndCleared(number);
         WorldMake accepted = new WorldMake();
-        List<AnyCall> told = new ArrayList<>();
+        List<Call> told = new ArrayList<>();
         for (int i = 0; i < CALLS; i++) {
-            AnyCall call = i < 6 + number % 20 ? maker.firstThing(i) : maker.next(all);
+            Call call = i < 6 + number % 20 ? maker.firstThing(i) : maker.next(all);
             int[] way = call.is("settle") ? leastWay(all, told) : null;
             long answer = call.on(all);
             maker.heard(call, answer);
@@ -48,10 +48,10 @@ public final class AnyCallsTest {
     }
 
     private static WorldMake usedAndCleared(int number) {
-        AnyCall.Maker maker = new AnyCall.Maker(-1 - number);
+        CallMaker maker = new CallMaker(-1 - number);
         WorldMake w = new WorldMake();
         for (int i = 0; i < 200; i++) {
-            AnyCall call = i < 14 ? maker.firstThing(i) : maker.next(w);
+            Call call = i < 14 ? maker.firstThing(i) : maker.next(w);
             maker.heard(call, call.on(w));
         }
         w.clear();
@@ -59,17 +59,14 @@ public final class AnyCallsTest {
     }
 
     /** Whether a call that would change something did not (a fault is not meant: it changes fault()). */
-    private static boolean wasRefused(AnyCall call, long answer) {
-        List<String> changing = List.of("kind", "property", "usual", "thing", "put", "bar", "give", "remark", "open",
-            "among", "pair", "most", "settle", "relation", "relate", "deny", "exit", "door", "shelf", "stand", "haul",
-            "table", "fill", "blank", "rank", "make");
-        return changing.contains(call.name()) && (answer <= -100 || (answer < 0 && answer >= NOWAY));
+    private static boolean wasRefused(Call call, long answer) {
+        return !call.reads() && (answer <= -100 || (answer < 0 && answer >= NOWAY));
     }
 
     // ---- settled places
 
     /** Where each thing lies by the least way: null if settle() refuses ahead of it, none if there is no way. */
-    private static int[] leastWay(WorldMake w, List<AnyCall> told) {
+    private static int[] leastWay(WorldMake w, List<Call> told) {
         int things = w.count(2);
         int[] homes = new int[things];
         List<Integer> unsettled = new ArrayList<>();
@@ -87,7 +84,7 @@ public final class AnyCallsTest {
         return tryAll(w, told, homes, unsettled, 0) ? homes : new int[0];
     }
 
-    private static boolean tryAll(WorldMake w, List<AnyCall> told, int[] homes, List<Integer> unsettled, int k) {
+    private static boolean tryAll(WorldMake w, List<Call> told, int[] homes, List<Integer> unsettled, int k) {
         if (k == unsettled.size()) {
             return isWay(w, told, homes);
         }
@@ -103,7 +100,7 @@ public final class AnyCallsTest {
         return false;
     }
 
-    private static boolean isWay(WorldMake w, List<AnyCall> told, int[] homes) {
+    private static boolean isWay(WorldMake w, List<Call> told, int[] homes) {
         for (int t = 0; t < homes.length; t++) {
             int at = homes[t];
             for (int steps = 0; at != NONE; steps++) {
@@ -113,12 +110,12 @@ public final class AnyCallsTest {
                 at = homes[at];
             }
         }
-        for (AnyCall x : told) {
-            if (x.is("most") && countIn(w, homes, x.n()[0]) > x.n()[1]) {
+        for (Call x : told) {
+            if (x.is("most") && countIn(w, homes, x.at(0)) > x.at(1)) {
                 return false;
             }
-            if (x.is("pair") && homes[x.n()[0]] != NONE && homes[x.n()[1]] != NONE
-                && (homes[x.n()[0]] == homes[x.n()[1]]) != x.truth()) {
+            if (x.is("pair") && homes[x.at(0)] != NONE && homes[x.at(1)] != NONE
+                && (homes[x.at(0)] == homes[x.at(1)]) != x.truth(2)) {
                 return false;
             }
         }
@@ -151,7 +148,7 @@ public final class AnyCallsTest {
 
     // ---- ways along relations, and routes
 
-    private static void checkWays(int number, WorldMake w, List<AnyCall> told) {
+    private static void checkWays(int number, WorldMake w, List<Call> told) {
         int things = w.count(2);
         for (int relation = 0; relation < w.count(4); relation++) {
             boolean[][] has = new boolean[things][things];
@@ -173,7 +170,7 @@ public final class AnyCallsTest {
         checkRoutes(number, w, told, true);
     }
 
-    private static void checkRoutes(int number, WorldMake w, List<AnyCall> told, boolean any) {
+    private static void checkRoutes(int number, WorldMake w, List<Call> told, boolean any) {
         int things = w.count(2);
         boolean[][] leads = new boolean[things][things];
         for (int a = 0; a < things; a++) {
@@ -201,24 +198,24 @@ public final class AnyCallsTest {
         }
     }
 
-    private static boolean letsThrough(WorldMake w, List<AnyCall> told, int a, int d, boolean any) {
+    private static boolean letsThrough(WorldMake w, List<Call> told, int a, int d, boolean any) {
         int sort = w.sort(a, d);
         return sort == 1 || sort == 2 || (sort == 3 && (any || isOpen(told, doorAt(told, a, d))));
     }
 
-    private static int doorAt(List<AnyCall> told, int room, int d) {
-        for (AnyCall x : told) {
-            if (x.is("door") && (x.n()[1] == room && x.n()[2] == d || x.n()[3] == room && (x.n()[2] ^ 1) == d)) {
-                return x.n()[0];
+    private static int doorAt(List<Call> told, int room, int d) {
+        for (Call x : told) {
+            if (x.is("door") && (x.at(1) == room && x.at(2) == d || x.at(3) == room && (x.at(2) ^ 1) == d)) {
+                return x.at(0);
             }
         }
         return NONE;
     }
 
-    private static boolean isOpen(List<AnyCall> told, int door) {
+    private static boolean isOpen(List<Call> told, int door) {
         boolean open = false;
-        for (AnyCall x : told) {
-            open = x.is("open") && x.n()[0] == door ? x.truth() : open;
+        for (Call x : told) {
+            open = x.is("open") && x.at(0) == door ? x.truth(1) : open;
         }
         return open;
     }
