@@ -1,4 +1,4 @@
-/** Compares answers with those that are due, prints the wrong ones, and ends a test with exit code 1 if there were any. */
+/** Compares answers with those that are due, prints the wrong ones, and ends with exit code 1 if there were any. */
 final class Due {
     static final int NULL = -11, INDEX = -12, CAST = -13, STORE = -14, SIZE = -15, QUOTIENT = -16;
 

@@ -19,19 +19,20 @@ public final class KindEdgesTest {
     private static void newObject() {
         stories.tell("1: six KINDS, nothing else", """
             count(0) = 6; count(1|2|3|4|5|6|7|8|9) = 0; is(5, 4) = 1; is(6, 0) = UNKNOWN; fault() = 0; came() = 0;
-            digest() = 17; word(0|-1) = NONE; set(0|-1|63) = 0; sentence(0, 0) = UNKNOWN; settle() = 0; make() = STATE;
-            clear() = 0""");
+            digest() = 17; word(0|-1) = NONE; set(0|-1|63) = 0; sentence(0, 0) = UNKNOWN; settle() = 0;
+            make() = STATE; clear() = 0""");
         stories.tell("1: there is no PROPERTY, THING, RELATION, SHELF, TABLE yet", """
             usual(0, 0, 0) = UNKNOWN; put(0, 0) = UNKNOWN; bar(0, 0) = UNKNOWN; give(0, 0, 0) = UNKNOWN;
             value(0, 0) = UNKNOWN; given(0, 0) = UNKNOWN; peek(0, 0, 0) = UNKNOWN; place(0, 0) = UNKNOWN;
             says(0, 0) = UNKNOWN; follow(0, 0, 0) = UNKNOWN; mark(0, 0) = UNKNOWN; remark(0, 0, 0) = UNKNOWN;
             open(0, true) = UNKNOWN; among(0, 0|1) = UNKNOWN; pair(0, 0|1, true) = UNKNOWN; most(0, 0) = UNKNOWN;
-            relate(0, 0, 0) = UNKNOWN; deny(0, 0, 0) = UNKNOWN; related(0, 0, 0) = UNKNOWN; along(0, 0, 0) = UNKNOWN;
-            next(0, 0, 0) = UNKNOWN; exit(0, 0, NONE) = UNKNOWN; door(0, 0, 0, 0) = UNKNOWN; leads(0, 0) = UNKNOWN;
-            sort(0, 0) = UNKNOWN; route(0, 0, true) = UNKNOWN; first(0, 0, true) = UNKNOWN; stand(0, 0, NONE) = UNKNOWN;
-            stands(0, 0) = UNKNOWN; haul(0, 0, 0, 0, 0) = UNKNOWN; fill(0, 0, 0, 0) = UNKNOWN;
-            blank(0, 0, 0) = UNKNOWN; read(0, 0, 0) = UNKNOWN; choose(0, 0, 0, 0) = UNKNOWN;
-            rank(0, 0, true) = UNKNOWN; total(0, 0) = UNKNOWN; mean(0, 0) = UNKNOWN""");
+            relate(0, 0, 0) = UNKNOWN; deny(0, 0, 0) = UNKNOWN; related(0, 0, 0) = UNKNOWN;
+            along(0, 0, 0) = UNKNOWN; next(0, 0, 0) = UNKNOWN; exit(0, 0, NONE) = UNKNOWN;
+            door(0, 0, 0, 0) = UNKNOWN; leads(0, 0) = UNKNOWN; sort(0, 0) = UNKNOWN; route(0, 0, true) = UNKNOWN;
+            first(0, 0, true) = UNKNOWN; stand(0, 0, NONE) = UNKNOWN; stands(0, 0) = UNKNOWN;
+            haul(0, 0, 0, 0, 0) = UNKNOWN; fill(0, 0, 0, 0) = UNKNOWN; blank(0, 0, 0) = UNKNOWN;
+            read(0, 0, 0) = UNKNOWN; choose(0, 0, 0, 0) = UNKNOWN; rank(0, 0, true) = UNKNOWN;
+            total(0, 0) = UNKNOWN; mean(0, 0) = UNKNOWN""");
     }
 
     private static void kinds() {
@@ -53,16 +54,17 @@ public final class KindEdgesTest {
             is(0|1|2|3|4|5, 0) = 1; is(0, 1|2|3|4|5) = 0; is(1|2|3|4, 5) = 0; is(5, 4) = 1; is(4, 5) = 0;
             is(5, 1|2|3) = 0; is(1, 2|3|4) = 0; is(2, 1|3|4) = 0; is(3, 1|2|4) = 0; is(4, 1|2|3) = 0""");
         stories.tell("Terms 1: a KIND IS itself, and all that its PARENT IS, through all of 24", """
-            kind(5|6|7|8|9|10|11|12|13|14|15|16|17|18|19|20|21|22) = 6 ..;
-            is(23, 0|4|5|6|7|12|22|23) = 1; is(23, 1|2|3) = 0; is(22, 23) = 0; is(6, 7) = 0; is(12, 11) = 1""");
-        stories.tell("3: brothers are not one another", "kind(4); kind(4); kind(6); is(6, 7) = 0; is(7, 6) = 0; is(8, 7) = 0");
+            kind(5|6|7|8|9|10|11|12|13|14|15|16|17|18|19|20|21|22) = 6 ..; is(23, 0|4|5|6|7|12|22|23) = 1;
+            is(23, 1|2|3) = 0; is(22, 23) = 0; is(6, 7) = 0; is(12, 11) = 1""");
+        stories.tell("3: brothers are not one another", """
+            kind(4); kind(4); kind(6); is(6, 7) = 0; is(7, 6) = 0; is(8, 7) = 0""");
     }
 
     private static void bases() {
         stories.tell("Terms 1: the BASE is the first of the six, by PARENTS, itself first", """
             kind(5); kind(6); kind(4); kind(0); kind(1); thing(7, 1) = 0; thing(8, 1) = 1; thing(9, 1) = 2;
-            thing(10, 1) = 3; says(0, 1) = 8; says(1, 1) = 4; says(2, 1) = 4; says(3, 1) = 1004; says(0, 4) = QUOTIENT;
-            says(1, 4) = CAST; says(1, 3) = 1; says(2, 3) = CAST; says(3, 2) = 0""");
+            thing(10, 1) = 3; says(0, 1) = 8; says(1, 1) = 4; says(2, 1) = 4; says(3, 1) = 1004;
+            says(0, 4) = QUOTIENT; says(1, 4) = CAST; says(1, 3) = 1; says(2, 3) = CAST; says(3, 2) = 0""");
     }
 
     private static void properties() {
@@ -77,7 +79,8 @@ public final class KindEdgesTest {
         stories.tell("4: OUTSIDE: the LANE, at both ends", """
             property(0, -1|9|MIN|MAX, 0) = OUTSIDE; property(0, 0, 0) = 0; property(0, 8, 0) = 1""");
         stories.tell("4: UNKNOWN ahead of OUTSIDE", "property(6, 9, 0) = UNKNOWN; property(-1, -1, 0) = UNKNOWN");
-        stories.tell("4: OF is not looked at where the LANE is OUTSIDE", "property(0, 9, 99) = OUTSIDE; property(0, -1, -1) = OUTSIDE");
+        stories.tell("4: OF is not looked at where the LANE is OUTSIDE", """
+            property(0, 9, 99) = OUTSIDE; property(0, -1, -1) = OUTSIDE""");
         stories.tell("4: PROPERTIES 0 .. 11; FULL behind; UNKNOWN, OUTSIDE ahead of FULL", """
             12 x property(0, 4, 0) = 0 ..; property(0, 0|4|7, 0) = FULL; property(0, 8, 0) = FULL;
             property(6, 0, 0) = UNKNOWN; property(0, 8, 6) = UNKNOWN; property(0, 9|-1, 0) = OUTSIDE; count(1) = 12;
@@ -91,19 +94,20 @@ public final class KindEdgesTest {
             usual(5, 0, 1) = 1; kind(5); usual(6, 0, 1) = 1; usual(7, 0, 1) = UNKNOWN""");
         stories.tell("5: UNKNOWN: also v, of LANE 8", """
             property(0, 8, 0); usual(0, 0, 0|-1|-8|-10|64|LMIN|LMAX|4294967296) = UNKNOWN; thing(0, 0);
-            usual(0, 0, 0) = 1; usual(0, 0, 1) = UNKNOWN; value(0, 0) = 0; usual(0, 0, NONE) = 1; value(0, 0) = NONE""");
+            usual(0, 0, 0) = 1; usual(0, 0, 1) = UNKNOWN; value(0, 0) = 0; usual(0, 0, NONE) = 1;
+            value(0, 0) = NONE""");
         stories.tell("5: no v of another LANE is UNKNOWN", """
             property(0, 0|1|2|3|4|5|6|7, 0) = 0 ..; usual(0, 0|1|2|3|4|5|6|7, -1|-9|99|LMIN|LMAX) = 1""");
         stories.tell("5: STATE: the KIND is none that IS the PROPERTY's", """
-            property(4, 4, 0); usual(0|1|2|3, 0, 1) = STATE; usual(4|5, 0, 1) = 1; kind(4); kind(0); usual(6, 0, 1) = 1;
-            usual(7, 0, 1) = STATE""");
+            property(4, 4, 0); usual(0|1|2|3, 0, 1) = STATE; usual(4|5, 0, 1) = 1; kind(4); kind(0);
+            usual(6, 0, 1) = 1; usual(7, 0, 1) = STATE""");
         stories.tell("5: STORE: its BASE is none that IS that", """
             world THING ROOM DOOR BACKDROP CARRIER PERSON; property(0, 8, 4); usual(0, 0, 0|1|2|3) = STORE;
             usual(0, 0, 4|5|NONE) = 1; fault() = 4; property(0, 8, 5); usual(0, 1, 4) = STORE; usual(0, 1, 5) = 1;
             property(0, 8, 0); usual(0, 2, 0|1|2|3|4|5) = 1""");
         stories.tell("5: a refused USUAL leaves the earlier one", """
-            world ROOM THING; property(1, 8, 1); usual(1, 0, 0) = 1; usual(1, 0, 1) = STORE; usual(1, 0, 2) = UNKNOWN;
-            usual(0, 0, NONE) = STATE; value(0, 0) = 0""");
+            world ROOM THING; property(1, 8, 1); usual(1, 0, 0) = 1; usual(1, 0, 1) = STORE;
+            usual(1, 0, 2) = UNKNOWN; usual(0, 0, NONE) = STATE; value(0, 0) = 0""");
     }
 
     private static void usualsInOrder() {
@@ -112,8 +116,8 @@ public final class KindEdgesTest {
             usual(0, 1, 0) = UNKNOWN; usual(0, 0, 0) = STATE; usual(1, 0, 0) = STORE; usual(1, 0, 1) = 1;
             usual(0, 0, NONE) = STATE""");
         stories.tell("5: USUALS are no SENTENCES, and come as often as one likes", """
-            property(0, 4, 0); thing(0, 0); 40 x usual(0, 0, 7) = 1; usual(0, 0, 8) = 1; value(0, 0) = 8; count(3) = 0;
-            given(0, 0) = NONE; peek(0, 4, 0) = 0""");
+            property(0, 4, 0); thing(0, 0); 40 x usual(0, 0, 7) = 1; usual(0, 0, 8) = 1; value(0, 0) = 8;
+            count(3) = 0; given(0, 0) = NONE; peek(0, 4, 0) = 0""");
     }
 
     private static void nearestUsuals() {
@@ -133,7 +137,8 @@ public final class KindEdgesTest {
             value(3, 0) = 0; give(0|1|2, 0, 1) = STATE; give(3, 0, 1) = 0; property(4, 4, 0); value(0, 1) = STATE;
             value(1|2|3, 1) = 0""");
         stories.tell("Terms 1: a USUAL is of one PROPERTY alone", """
-            thing(0, 0); property(0, 4, 0); property(0, 4, 0); usual(0, 1, 3); value(0, 0) = 0; value(0, 1) = 3""");
+            thing(0, 0); property(0, 4, 0); property(0, 4, 0); usual(0, 1, 3); value(0, 0) = 0;
+            value(0, 1) = 3""");
     }
 
     /** A cell of a lane: what comes in as the first of two tells the second. */
@@ -182,7 +187,8 @@ public final class KindEdgesTest {
         stories.tell("Terms 1: OF a PERSON, a CARRIER is none", """
             world CARRIER PERSON; property(0, 8, 5); give(0, 0, 0) = STORE; give(0, 0, 1) = 0""");
         stories.tell("Terms 1: LANE 8, UNKNOWN: another number that is no THING", """
-            world THING; property(0, 8, 0); give(0, 0, 1|-1|-8|-10|63|64|LMIN|LMAX|4294967296|-4294967305) = UNKNOWN;
-            value(0, 0) = NONE; give(0, 0, 0) = 0""");
+            world THING; property(0, 8, 0);
+            give(0, 0, 1|-1|-8|-10|63|64|LMIN|LMAX|4294967296|-4294967305) = UNKNOWN; value(0, 0) = NONE;
+            give(0, 0, 0) = 0""");
     }
 }

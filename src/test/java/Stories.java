@@ -19,11 +19,12 @@ import java.util.function.IntFunction;
 final class Stories {
     private static final int MOST_CALLS = 512, ASKED = 150, ROUNDS = 3;
 
-    private static final Map<String, Long> NUMBERS = Map.ofEntries(Map.entry("MIN", (long) Integer.MIN_VALUE),
-        Map.entry("MAX", (long) Integer.MAX_VALUE), Map.entry("LMIN", Long.MIN_VALUE), Map.entry("LMAX", Long.MAX_VALUE),
-        Map.entry("NONE", -9L), Map.entry("true", 1L), Map.entry("false", 0L), Map.entry("THING", 0L),
-        Map.entry("ROOM", 1L), Map.entry("DOOR", 2L), Map.entry("BACKDROP", 3L), Map.entry("CARRIER", 4L),
-        Map.entry("PERSON", 5L));
+    private static final Map<String, Long> NUMBERS = Map.ofEntries(
+        Map.entry("MIN", (long) Integer.MIN_VALUE), Map.entry("MAX", (long) Integer.MAX_VALUE),
+        Map.entry("LMIN", Long.MIN_VALUE), Map.entry("LMAX", Long.MAX_VALUE),
+        Map.entry("NONE", -9L), Map.entry("true", 1L), Map.entry("false", 0L),
+        Map.entry("THING", 0L), Map.entry("ROOM", 1L), Map.entry("DOOR", 2L),
+        Map.entry("BACKDROP", 3L), Map.entry("CARRIER", 4L), Map.entry("PERSON", 5L));
     private static final Map<String, Integer> REFUSALS =
         Map.of("UNKNOWN", -1, "OUTSIDE", -2, "STATE", -3, "FULL", -4, "NOWAY", -5);
     private static final Map<String, Integer> FAULTS =
