@@ -1,18 +1,24 @@
 /** Makes any calls from a fixed row of numbers, most of them sensible, now and then with numbers that are far off. */
 final class CallMaker {
     /**
-     * Each method with the sorts of its numbers: k a kind, p a property, l a lane, t a thing, m one that may lie
-     * somewhere, h a holder, o a room, e a room or nothing, w a door, r a relation, f a form, d a direction, s a shelf,
-     * b a table, v a value, z a small value, x a set, y a truth, 1 to 9 a number below 4 times that.
+     * Each method with the sorts of its numbers: k a kind, K one that many are of, p a property, l a lane, t a thing,
+     * m one that may lie somewhere, h a holder, o a room, e a room or nothing, w a door, r a relation, f a form,
+     * d a direction, s a shelf, b a table, i a place or a row, u how many of them, c a column, g lanes of columns,
+     * v a value, z a small value, x a set, y a truth, n a size, S a sentence, W a word, 1 to 9 a number up to that.
      */
     private static final String[] FACE = {
-        "kind k", "is kk", "property klk", "usual kpv", "thing k9", "put mh", "bar mh", "give tpv", "value tp",
-        "given tp", "peek pl9", "place t1", "says t1", "follow tp1", "mark t1", "remark t19", "open ty", "among mx",
-        "pair mmy", "most h1", "settle ", "set t", "relation f", "relate rtt", "deny rtt", "related rtt", "along rtt",
-        "next rtt", "exit ode", "door wodo", "leads od", "sort od", "route ooy", "first ooy", "shelf k2",
-        "stand s1t", "stands s1", "haul s1s11", "came ", "table 217", "fill b11v", "blank b11", "read b11",
-        "choose b1z1", "rank b1y", "total b1", "mean b1", "make ", "word 9", "digest ", "sentence 91", "count 3",
+        "kind k", "is kk", "property Klk", "usual kpv", "thing kn", "put mh", "bar mh", "give tpv", "value tp",
+        "given tp", "peek pln", "place t6", "says t5", "follow tp5", "mark t2", "remark t2n", "open ty", "among mx",
+        "pair mmy", "most h3", "settle ", "set t", "relation f", "relate rtt", "deny rtt", "related rtt", "along rtt",
+        "next rtt", "exit ode", "door wodo", "leads od", "sort od", "route ooy", "first ooy", "shelf ku",
+        "stand sit", "stands si", "haul sisii", "came ", "table ucg", "fill bicv", "blank bic", "read bic",
+        "choose bczi", "rank bcy", "total bc", "mean bc", "make ", "word W", "digest ", "sentence S3", "count 9",
         "fault ", "clear "};
+
+    /** The kinds of the things that a world begins with; the second one has rooms enough for its backdrops. */
+    private static final int[][] BEGINNINGS = {
+        {1, 1, 4, 0, 5, 2, 1, 4, 0, 3, 0, 4, 2, 5}, {1, 3, 1, 1, 0, 1, 1, 1, 2, 1, 4, 1, 3},
+        {4, 1, 4, 0, 4, 5, 4, 4, 0, 5, 4}};
 
     private static final int[] ODD = {-9, -1, -2, 64, 63, 8, 16, 24, 300, 1000, 1001, 77777, Integer.MIN_VALUE,
         Integer.MAX_VALUE};
@@ -35,8 +41,8 @@ final class CallMaker {
     }
 
     Call firstThing(int i) {
-        int[] row = {1, 1, 4, 0, 5, 2, 1, 4, 0, 3, 0, 4, 2, 5};
-        return new Call("thing", row[i % row.length], 1 + i);
+        int[] row = BEGINNINGS[many % BEGINNINGS.length];
+        return new Call("thing", row[i % row.length], from % 4 == 0 ? 0 : 1 + i);
     }
 
     /** The maker keeps the kinds of all things, so that it can find a room where it wants one. */
@@ -66,8 +72,9 @@ final class CallMaker {
     private long number(WorldMake w, char sort, long first) {
         switch (sort) {
             case 'k': return below(w.count(0));
+            case 'K': return below(2) == 0 ? 0 : below(w.count(0));
             case 'p': return below(Math.max(1, w.count(1)));
-            case 'l': return below(9);
+            case 'l': return below(3) == 0 ? 8 : below(9);
             case 'r': return below(Math.max(1, w.count(4)));
             case 'f': return below(6);
             case 'd': return below(8);
@@ -77,14 +84,29 @@ final class CallMaker {
             case 'z': return below(5) - 2;
             case 'x': return holders(w, first);
             case 'y': return below(2);
+            case 'i': return below(below(3) == 0 ? 18 : 4);
+            case 'u': return below(4) == 0 ? below(18) : 5 + below(12);
+            case 'c': return below(below(3) == 0 ? 7 : 3);
+            case 'g': return lanes();
+            case 'n': return below(below(2) == 0 ? 3 : 1002);
+            case 'S': return below(w.count(3) + 1);
+            case 'W': return below(w.count(8) + 1);
             case 'e': return below(6) == 0 ? WorldMake.NONE : thing(w, 'o');
             case 'o':
             case 'h':
             case 'm':
             case 'w':
             case 't': return thing(w, sort);
-            default: return below(4 * (sort - '0'));
+            default: return below(sort - '0' + 1);
         }
+    }
+
+    private int lanes() {
+        int lanes = 0;
+        for (int digits = below(below(3) == 0 ? 7 : 3); digits > 0; digits--) {
+            lanes = 10 * lanes + below(below(12) == 0 ? 10 : 8);
+        }
+        return lanes;
     }
 
     private int thing(WorldMake w, char sort) {
@@ -111,7 +133,7 @@ final class CallMaker {
 
     private long holders(WorldMake w, long thing) {
         long set = below(40) == 0 ? seed : 0;
-        for (int k = 1 + below(3); k > 0; k--) {
+        for (int k = 1 + below(below(4) == 0 ? 12 : 3); k > 0; k--) {
             set |= 1L << thing(w, 'h');
         }
         return thing >= 0 && thing < 64 ? set & ~(1L << thing) : set;
